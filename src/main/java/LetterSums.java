@@ -444,9 +444,10 @@ public final class LetterSums {
         private void weighWord(Sum sum, int word) {
             int weight = sum.isBehind(word) == sum.isTakenAway(word) ? 1 : -1;
             for (int i = sum.ends[word] - 1; i >= sum.starts[word]; i--) {
-                int slot = sum.slotOf(sum.byteAt(i));
+                int there = sum.byteAt(i);
+                int slot = sum.slotOf(there);
                 if (slot == NONE) {
-                    ofDigits += weight * sum.digitAt(i, 0);
+                    ofDigits += weight * (there - DIGIT_ZERO);
                 } else {
                     ofSlot[slot] += weight;
                 }
