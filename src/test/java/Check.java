@@ -6,6 +6,23 @@ final class Check {
     private Check() {
     }
 
+    /** Runs one test by its name: the promise and the words of the document that it holds the class to. */
+    static void test(String name, Runnable body) {
+        int wrongAhead = wrong;
+        int madeAhead = made;
+        try {
+            body.run();
+        } catch (RuntimeException e) {
+            wrong++;
+            System.out.println("thrown: " + e);
+        }
+        if (made == madeAhead && wrong == wrongAhead) {
+            wrong++;
+            System.out.println("nothing was looked at");
+        }
+        System.out.println((wrong == wrongAhead ? "  ok: " : "  FAILED: ") + name);
+    }
+
     static void due(String call, long got, long want) {
         made++;
         if (got != want) {
@@ -44,6 +61,23 @@ final class Check {
         int words = text.split("[-+=]").length;
         due("read() of " + text, read(x, text), words);
         return x;
+    }
+
+    /** A new object that has read a text and kept its first answers, as many as are due. */
+    static LetterSums found(int base, String text, int most, int want) {
+        LetterSums x = with(base, text);
+        due("run(" + most + ") of " + text, x.run(most), want);
+        return x;
+    }
+
+    /** Nothing is kept: each call that tells of answer 0 says so. */
+    static void nothingKept(LetterSums x) {
+        due("digit(0, a)", x.digit(0, 'a'), -1);
+        due("side(0, 0)", x.side(0, 0), -1);
+        due("side(0, 1)", x.side(0, 1), -1);
+        due("carry(0, 0)", x.carry(0, 0), -1);
+        due("text(0, 0)", x.text(0, 0), -1);
+        due("fixed()", x.fixed(), 0);
     }
 
     /** Answer k as text(k, i) writes it out, up to its first -1. */

@@ -30,8 +30,8 @@ public final class HardSumsTest {
             text.setCharAt(j, c);
         }
         int longest = 1 + random.nextInt(4);
-        return text.insert(20 - longest, '=').insert(15 - longest, '+').insert(8 + random.nextInt(2), '-').insert(4, '+')
-                .toString();
+        text.insert(20 - longest, '=').insert(15 - longest, '+');
+        return text.insert(8 + random.nextInt(2), '-').insert(4, '+').toString();
     }
 
     private static void compare(int base, String text) {
