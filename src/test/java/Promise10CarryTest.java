@@ -119,6 +119,7 @@ public final class Promise10CarryTest {
         hasNone("5+5+5+5+5+5-0=30");
     }
 
+    // A - behind the = means two words there too: such a text has no carries by either condition.
     private static void takenAwayBehind() {
         hasNone("a=b-c");
         hasNone("5+5=10-0");
